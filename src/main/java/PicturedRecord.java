@@ -152,7 +152,7 @@ public final class PicturedRecord {
         Field left = fieldAt(a);
         Field right = fieldAt(b);
         Field target = fieldAt(to);
-        if (op < PLUS || op > DIVIDED_BY || !isMode(mode) || !isOperand(left) || !isOperand(right) || target == null) {
+        if (!isOperation(op) || !isMode(mode) || !isOperand(left) || !isOperand(right) || target == null) {
             return REFUSED;
         }
         long x = storage.unitsOf(left);
@@ -251,6 +251,10 @@ public final class PicturedRecord {
         return p >= 0 && p < RECORD_LIMIT;
     }
 
+    private static boolean isOperation(int op) {
+        return op >= PLUS && op <= DIVIDED_BY;
+    }
+
     private static boolean isMode(int mode) {
         return mode >= TOWARDS_ZERO && mode <= WHOLE_ONLY;
     }
@@ -283,9 +287,9 @@ public final class PicturedRecord {
     }
 
     /**
-     * The remainder times 10 to the scale: x / 10^xScale less y times the quotient cut behind as
-     * many places as make the product's decimals. Nothing overflows: the product is never further
-     * from zero than x.
+     * The remainder of x units by y units, as a whole number of 10^-scale; decimals are those of
+     * y times the cut quotient. Nothing overflows, for that product is never further from zero
+     * than the dividend.
      */
     private static long remainderAt(int scale, long x, int xScale, long y, int decimals) {
         long cut = Decimal.result(x, decimals - xScale, y, TOWARDS_ZERO);
@@ -317,6 +321,7 @@ public final class PicturedRecord {
             1L, 10L, 100L, 1000L, 10000L, 100000L, 1000000L, 10000000L, 100000000L, 1000000000L
         };
 
+        /** Fields keep the exponents within 0 .. 9; the index is looked at all the same. */
         private static long tenTo(int exponent) {
             return exponent >= 0 && exponent < TENS.length ? TENS[exponent] : 1L;
         }
@@ -427,6 +432,7 @@ public final class PicturedRecord {
         private int bodyStart;
         private int bodyEnd;
         private char filler;
+        private boolean floating;
 
         private Picture() {
             symbols = new char[SYMBOL_LIMIT];
@@ -477,7 +483,8 @@ public final class PicturedRecord {
 
         /** How many characters the repetition at this place takes; 0 if there is none. */
         private static int repetitionLength(char[] draft, int length, int at) {
-            if (at + 3 >= length || !isOneOf(REPEATABLE, draft[at]) || draft[at + 1] != '(' || !isDigit(draft[at + 2])) {
+            boolean begins = at + 3 < length && isOneOf(REPEATABLE, draft[at]) && draft[at + 1] == '(';
+            if (!begins || !isDigit(draft[at + 2])) {
                 return 0;
             }
             if (draft[at + 3] == ')') {
@@ -576,25 +583,26 @@ public final class PicturedRecord {
                     scale += behindPoint ? 1 : 0;
                 } else if (symbol == '.' && !behindPoint) {
                     behindPoint = true;
-                } else if (isOneOf(FILLERS, symbol) && nines == 0 && !behindPoint && (fillers == 0 || symbol == filler)) {
+                } else if (isNextFiller(symbol, fillers) && nines == 0 && !behindPoint) {
                     filler = symbol;
                     fillers++;
                 } else if (!isOneOf(INSERTIONS, symbol)) {
                     return false;
                 }
             }
-            digits = nines + fillers - (isFloating() ? 1 : 0);
-            return (!behindPoint || scale > 0) && (!isFloating() || fillers >= 2);
+            floating = isOneOf(FLOATING, filler);
+            digits = nines + fillers - (floating ? 1 : 0);
+            return (!behindPoint || scale > 0) && (!floating || fillers >= 2);
         }
 
-        private boolean isFloating() {
-            return isOneOf(FLOATING, filler);
+        private boolean isNextFiller(char symbol, int fillersBefore) {
+            return isOneOf(FILLERS, symbol) && (fillersBefore == 0 || symbol == filler);
         }
 
         /** The first floating filler is no digit place; it always begins the body. */
         private boolean isDigitPlace(int place) {
             char symbol = symbols[place];
-            return symbol == '9' || symbol == filler && !(isFloating() && place == bodyStart);
+            return symbol == '9' || symbol == filler && !(floating && place == bodyStart);
         }
 
         private static boolean isOneOf(String characters, char c) {
@@ -619,64 +627,52 @@ public final class PicturedRecord {
             for (int i = 0; i < picture.bodyStart; i++) {
                 text[i] = signCharacter(picture.symbols[i], negative);
             }
-            editBody(picture, Math.abs(units), negative);
+            writeBody(picture, Math.abs(units));
+            suppress(picture, firstShown(picture), negative);
             for (int i = picture.bodyEnd; i < picture.count; i++) {
-                text[i] = tailCharacter(picture.symbols[i], negative);
+                text[i] = signCharacter(picture.symbols[i], negative);
             }
         }
 
-        private void editBody(Picture picture, long magnitude, boolean negative) {
-            int shown = firstShown(picture, magnitude);
-            int digitsLeft = picture.digits;
-            for (int i = picture.bodyStart; i < picture.bodyEnd; i++) {
-                boolean digitPlace = picture.isDigitPlace(i);
-                digitsLeft -= digitPlace ? 1 : 0;
-                if (i < shown) {
-                    text[i] = picture.filler == '*' ? '*' : ' ';
-                } else if (digitPlace) {
-                    text[i] = '0' + digitAt(magnitude, digitsLeft);
+        /** Writes all digits of the body; those in front may be suppressed then. */
+        private void writeBody(Picture picture, long magnitude) {
+            long left = magnitude;
+            for (int i = picture.bodyEnd - 1; i >= picture.bodyStart; i--) {
+                if (picture.isDigitPlace(i)) {
+                    text[i] = '0' + (int) (left % 10);
+                    left /= 10;
                 } else {
                     text[i] = picture.symbols[i] == 'B' ? ' ' : picture.symbols[i];
                 }
             }
-            if (picture.isFloating() && shown > picture.bodyStart && shown < picture.bodyEnd) {
-                text[shown - 1] = signCharacter(picture.filler, negative);
-            }
         }
 
-        private static int firstShown(Picture picture, long magnitude) {
-            int digitsLeft = picture.digits;
+        private int firstShown(Picture picture) {
             for (int i = picture.bodyStart; i < picture.bodyEnd; i++) {
-                if (picture.symbols[i] == '9' || picture.symbols[i] == '.') {
+                char symbol = picture.symbols[i];
+                if (symbol == '9' || symbol == '.' || picture.isDigitPlace(i) && text[i] != '0') {
                     return i;
-                }
-                if (picture.isDigitPlace(i)) {
-                    digitsLeft--;
-                    if (digitAt(magnitude, digitsLeft) != 0) {
-                        return i;
-                    }
                 }
             }
             return picture.bodyEnd;
         }
 
-        private static int digitAt(long magnitude, int exponent) {
-            return (int) (magnitude / Decimal.tenTo(exponent) % 10);
+        private void suppress(Picture picture, int shown, boolean negative) {
+            for (int i = picture.bodyStart; i < shown; i++) {
+                text[i] = picture.filler == '*' ? '*' : ' ';
+            }
+            if (picture.floating && shown > picture.bodyStart && shown < picture.bodyEnd) {
+                text[shown - 1] = signCharacter(picture.filler, negative);
+            }
         }
 
+        /** What a symbol of head or tail shows, or the one floating filler that shows anything. */
         private static int signCharacter(char symbol, boolean negative) {
             if (symbol == '$') {
                 return '$';
             }
-            if (negative) {
-                return '-';
-            }
-            return symbol == '+' ? '+' : ' ';
-        }
-
-        private static int tailCharacter(char symbol, boolean negative) {
-            if (Picture.isOneOf(Picture.SIGNS, symbol)) {
-                return signCharacter(symbol, negative);
+            if (symbol == '+') {
+                return negative ? '-' : '+';
             }
             return negative ? symbol : ' ';
         }
@@ -855,14 +851,18 @@ public final class PicturedRecord {
                     magnitude = 10 * magnitude + (isDigit(digit) ? digit : 0);
                 }
             }
-            if (holdsEdited(f, magnitude)) {
+            editor.edit(f.picture, magnitude);
+            if (holdsText(f)) {
                 return magnitude;
             }
-            return f.signed && holdsEdited(f, -magnitude) ? -magnitude : NONE;
+            if (!f.signed) {
+                return NONE;
+            }
+            editor.edit(f.picture, -magnitude);
+            return holdsText(f) ? -magnitude : NONE;
         }
 
-        private boolean holdsEdited(Field f, long units) {
-            editor.edit(f.picture, units);
+        private boolean holdsText(Field f) {
             for (int i = 0; i < f.length; i++) {
                 if (bytes[f.offset + i] != editor.text[i]) {
                     return false;

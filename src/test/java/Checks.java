@@ -3,8 +3,8 @@ final class Checks {
     // A broken program can get thousands of answers wrong; the first ones tell enough.
     private static final int MOST_PRINTED = 40;
 
-    private int done = 0;
-    private int wrong = 0;
+    private long done = 0;
+    private long wrong = 0;
 
     void same(String what, long got, long due) {
         done++;

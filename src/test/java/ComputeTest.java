@@ -19,7 +19,7 @@ public final class ComputeTest {
     /** A due of null asks for a size error and a target that stays as it is. */
     private static void gives(int op, String p, int x, String q, int y, String to, int mode, Integer due) {
         PicturedRecord r = Records.zoned(p, x, q, y, to, 1);
-        String what = "compute op " + op + " of " + p + " " + x + " and " + q + " " + y + " to " + to + " mode " + mode;
+        String what = "op " + op + " of " + p + " " + x + " and " + q + " " + y + " to " + to + " mode " + mode;
         CHECKS.same(what, r.compute(op, 0, 1, 2, mode), due == null ? 1 : 0);
         CHECKS.same(what + ": value", r.value(2), due == null ? 1 : due);
         CHECKS.same(what + ": size errors", r.sizeErrors(), due == null ? 1 : 0);
@@ -91,6 +91,16 @@ public final class ComputeTest {
         gives(0, "S9V9", -91, "9", 0, "S9", 5, -9);
         gives(0, "9", 1, "9", 0, "V99", 0, null);
         gives(2, "9", 3, "9", 4, "9", 0, null);
+        int limit = 10;
+        for (int n = 1; n <= 8; n++) {
+            gives(0, "S9(9)", limit - 1, "9", 0, "S9(" + n + ")", 0, limit - 1);
+            gives(0, "S9(9)", limit - 1, "9", 1, "S9(" + n + ")", 0, null);
+            gives(0, "S9(9)", 1 - limit, "9", 0, "S9(" + n + ")", 0, 1 - limit);
+            gives(1, "S9(9)", 1 - limit, "9", 1, "S9(" + n + ")", 0, null);
+            limit *= 10;
+        }
+        gives(0, "9(9)", 999999999, "9", 0, "9(9)", 0, 999999999);
+        gives(0, "9(9)", 999999999, "9", 1, "9(9)", 0, null);
     }
 
     private static void largestNumbers() {

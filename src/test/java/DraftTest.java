@@ -46,6 +46,12 @@ public final class DraftTest {
         r.pic('9');
         checks.same("field behind scrap and 9", r.field(0, 0), 0);
         checks.same("shape behind scrap", r.shape(0), 1);
+        Records.draft(r, "9B(01)");
+        Records.draft(r, "9B(01");
+        checks.same("a bracket that was scrapped", r.field(0, 0), -1);
+        Records.draft(r, "9B(1)");
+        Records.draft(r, "9B(1");
+        checks.same("another bracket that was scrapped", r.field(0, 0), -1);
         r.poke(3, 9);
         r.scrap();
         checks.same("scrap leaves fields", r.fields(), 1);

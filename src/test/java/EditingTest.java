@@ -7,6 +7,7 @@ public final class EditingTest {
         suppression();
         floating();
         headsAndTails();
+        eighteenSymbols();
         everyUnitIsReadBack();
         CHECKS.finish();
     }
@@ -109,6 +110,20 @@ public final class EditingTest {
         edits("+$$9", -3, "- $3");
         edits("-$$9", 13, " $13");
         edits("9BCR", -1, "1 CR");
+    }
+
+    private static void eighteenSymbols() {
+        edits("Z(9)B(9)", 0, " ".repeat(18));
+        edits("Z(9)B(9)", 123456789, "123456789" + " ".repeat(9));
+        edits("9(9)0(7)CR", -120, "000000120" + "0".repeat(7) + "CR");
+        edits("+$9(9)/(7)", -120, "-$000000120///////");
+        edits("-,---,---/BB0,B9.9", -1200034, "  -12,000/  0, 3.4");
+        edits("$(9),(7).9", 5, " ".repeat(15) + "$.5");
+        PicturedRecord r = new PicturedRecord();
+        Records.make(r, "9(9)0(7)CR", 0, 46);
+        r.put(0, -7, 0);
+        CHECKS.same("eighteen symbols at the end of the record", r.value(0), -7);
+        CHECKS.same("their text", Records.text(r, 46, 18), "0000000070000000CR");
     }
 
     private static void everyUnitIsReadBack() {

@@ -12,6 +12,7 @@ public final class PictureTest {
         editedBodies();
         noEditedPictures();
         limits();
+        earlierDraftsLeaveNoTrace();
         CHECKS.finish();
     }
 
@@ -82,6 +83,7 @@ public final class PictureTest {
         none("9(0)", "9(00)", "99(0)", "9(0)9", "9()", "9(1", "9(", "9)", "(9)", "9(1)(2)", "9(001)", "9(123)",
             "9( 1)", "9(-1)", "9(x)", "9((1))", "9(1))", "S(1)9", "V(1)9", "9V(1)9", "9.(1)9", "9C(1)R", "9D(1)B(1)R",
             "9CR(1)", ")9", "9(1)(", "9(9", "9(99)", "9B(18)", "9(10)", "B(0)9", "9(2(3)", "9(2)3)", "()", "9(1 )");
+        none("9B(:)", "9B(/)", "9B(0:)", "9B(0/)", "9B(1/)", "9B(/5)", "9B(01(", "9B(019", "9B(012)", "9B(01");
     }
 
     private static void editedHeads() {
@@ -144,12 +146,12 @@ public final class PictureTest {
     }
 
     private static void noEditedPictures() {
-        none("+", "-", "$", "+$", "$+", "$-", "CR", "DB", "$CR", "+-", "-+", "+CR", "9+CR", "-9CR", "++9CR", "++CR",
-            "+9-", "+9+", "-9-", "$+9", "$-9", "9$", "9$9", "$9$", "Z$", "$Z$", "+Z+", "Z+Z", "9+9", "9-9", "+-9", "+-+9");
+        none("+", "-", "$", "+$", "$+", "$-", "CR", "DB", "$CR", "+-", "-+", "+CR", "9+CR", "-9CR", "++9CR", "++CR");
+        none("+9-", "+9+", "-9-", "$+9", "$-9", "9$", "9$9", "$9$", "Z$", "$Z$", "+Z+", "Z+Z", "9+9", "9-9", "+-9");
         none(",9", "B9", "09", "/9", "$,9", "+B9", "+$09", "-/9", ",", "B", "0", "/", "B+", ",CR");
-        none("9.", "Z.", ".", "9.9.9", "..9", "9..9", ".,", "9.B", "9.Z", "Z.Z", ".Z9", ".Z", "9Z", "9*", "9++", "9.++",
-            "Z9Z", "Z*", "*Z9", "ZZ$$", "$$Z", "++--", "$$++9", "$++$9", "**$", "Z9$");
-        none("9C", "9R", "9D", "9RC", "9BD", "9CRB", "9CR9", "CR9", "9DBCR", "9CB", "9DR", "9Cr", "9.9V", "S9CR", "9,V9");
+        none("9.", "Z.", ".", "9.9.9", "..9", "9..9", ".,", "9.B", "9.Z", "Z.Z", ".Z9", ".Z", "9Z", "9*", "9++");
+        none("9.++", "Z9Z", "Z*", "*Z9", "ZZ$$", "$$Z", "++--", "$$++9", "$++$9", "**$", "Z9$");
+        none("9C", "9R", "9D", "9RC", "9BD", "9CRB", "9CR9", "CR9", "9DBCR", "9CB", "9DR", "9Cr", "9.9V", "S9CR");
     }
 
     private static void limits() {
@@ -159,5 +161,25 @@ public final class PictureTest {
         edited("Z(9)B(7)CR", 18, 9, 0, true);
         edited("9(9)B(8)-", 18, 9, 0, true);
         edited("+$9(9)B(7)", 18, 9, 0, true);
+    }
+
+    private static void earlierDraftsLeaveNoTrace() {
+        String[] refused = {
+            "", "+9-", "$+", "Z*", "**.", "SV", "S9.9", "9V99999", "++--", ",9", "9(0)", "Z(9)9CR", "$$$."
+        };
+        String[] good = {"9", "S9V9", "9B", "9.9", "Z9", "$$", "+9", "9CR", "$9", "--9.99"};
+        for (String first : refused) {
+            for (String second : good) {
+                PicturedRecord alone = Records.with(second, 0);
+                PicturedRecord r = new PicturedRecord();
+                CHECKS.same("field of " + first, Records.make(r, first, 0, 0), -1);
+                CHECKS.same("field of " + second + " behind " + first, Records.make(r, second, 0, 0), 0);
+                CHECKS.same("shape of " + second + " behind " + first, r.shape(0), alone.shape(0));
+                CHECKS.same("size of " + second + " behind " + first, r.size(0), alone.size(0));
+                alone.put(0, -12, 1);
+                r.put(0, -12, 1);
+                CHECKS.same("bytes of " + second + " behind " + first, Records.allBytes(r), Records.allBytes(alone));
+            }
+        }
     }
 }

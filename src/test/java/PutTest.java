@@ -65,6 +65,14 @@ public final class PutTest {
         holds("S9(9)", Integer.MIN_VALUE, 0, -147483648);
         holds("S9(5)V9(4)", Integer.MAX_VALUE, 0, 836470000);
         holds("S9(5)V9(4)", Integer.MIN_VALUE, 0, -836480000);
+        int limit = 1;
+        for (int n = 1; n <= 9; n++) {
+            limit *= 10;
+            holds("S9(" + n + ")", 1987654321, 0, 1987654321 % limit);
+            holds("S9(" + n + ")", -1987654321, 0, -1987654321 % limit);
+            holds("S9(" + n + ")", limit, 0, 0);
+            holds("S9(" + n + ")", limit - 1, 0, limit - 1);
+        }
         holds("V9(4)", Integer.MAX_VALUE, 0, 0);
         holds("V9(4)", Integer.MAX_VALUE, 4, 3647);
     }
@@ -82,6 +90,12 @@ public final class PutTest {
         holds("9V9(4)", 99999, 9, 0);
         holds("9", 2147483647, 9, 2);
         holds("9", 99, 9, 0);
+        int divisor = 1;
+        for (int scale = 0; scale <= 9; scale++) {
+            holds("S9(9)", 987654321, scale, 987654321 / divisor);
+            holds("S9(9)", -987654321, scale, -987654321 / divisor);
+            divisor *= 10;
+        }
     }
 
     private static void signs() {

@@ -94,6 +94,7 @@ public final class ValueTest {
         hex("S9(3)", 1, "a23c", NONE);
         hex("S9(4)", 1, "01234c", 1234);
         hex("S9(4)", 1, "11234c", NONE);
+        hex("S9(4)", 1, "10000c", NONE);
         hex("S9(4)", 1, "90000c", NONE);
         hex("S9(4)", 1, "a0000c", NONE);
         hex("9(2)", 1, "099f", 99);
