@@ -20,8 +20,8 @@ public final class BytesTest {
     }
 
     private static void everyByte() {
-        PicturedRecord r = new PicturedRecord();
         for (int b = -300; b <= 600; b++) {
+            PicturedRecord r = new PicturedRecord();
             r.poke(7, 100);
             boolean due = b >= 0 && b <= 255;
             CHECKS.same("poke of " + b, r.poke(7, b), due);

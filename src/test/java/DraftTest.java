@@ -10,9 +10,8 @@ public final class DraftTest {
     }
 
     private static void everyCharacter(Checks checks) {
-        PicturedRecord r = new PicturedRecord();
         for (int c = 0; c <= 65535; c++) {
-            r.scrap();
+            PicturedRecord r = new PicturedRecord();
             checks.same("pic of code " + c, r.pic((char) c), c >= 32 && c <= 126);
         }
     }

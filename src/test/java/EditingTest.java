@@ -129,10 +129,11 @@ public final class EditingTest {
     private static void everyUnitIsReadBack() {
         String[] signed = {"+++9", "---", "-ZZ9", "$**CR", "$,$0$DB", "++B0+", "9/09.9-", "+$$,$9"};
         for (String picture : signed) {
-            PicturedRecord r = Records.with(picture, 0);
-            int limit = (int) Math.pow(10, r.shape(0) % 16);
-            int scale = r.shape(0) / 16 % 16;
+            int shape = Records.with(picture, 0).shape(0);
+            int limit = (int) Math.pow(10, shape % 16);
+            int scale = shape / 16 % 16;
             for (int units = 1 - limit; units < limit; units++) {
+                PicturedRecord r = Records.with(picture, 0);
                 r.put(0, units, scale);
                 CHECKS.same(picture + " of " + units + " read back", r.value(0), units);
             }

@@ -30,15 +30,24 @@ public final class FaceTest {
         Set<String> due = new TreeSet<>(List.of(FACE));
         Set<String> found = new TreeSet<>();
         for (Method method : PicturedRecord.class.getDeclaredMethods()) {
-            if (Modifier.isPublic(method.getModifiers()) && !Modifier.isStatic(method.getModifiers())) {
-                found.add(written(method));
+            if (Modifier.isPublic(method.getModifiers())) {
+                found.add((Modifier.isStatic(method.getModifiers()) ? "static " : "") + written(method));
             }
         }
         CHECKS.same("the public methods", found.toString(), due.toString());
         int modifiers = PicturedRecord.class.getModifiers();
         CHECKS.same("the class is public and final", Modifier.toString(modifiers), "public final");
+        CHECKS.same("NONE", written(PicturedRecord.class.getFields()), "[public static final long NONE]");
         CHECKS.same("constructors", PicturedRecord.class.getDeclaredConstructors().length, 1);
         CHECKS.same("public constructors", PicturedRecord.class.getConstructors().length, 1);
+    }
+
+    private static String written(Field[] fields) {
+        List<String> lines = new ArrayList<>();
+        for (Field field : fields) {
+            lines.add(Modifier.toString(field.getModifiers()) + " " + field.getType() + " " + field.getName());
+        }
+        return lines.toString();
     }
 
     private static String written(Method method) {
@@ -54,25 +63,26 @@ public final class FaceTest {
         for (String line : FACE) {
             publicNames.add(line.substring(line.indexOf(' ') + 1, line.indexOf('(')));
         }
+        for (Method method : PicturedRecord.class.getDeclaredMethods()) {
+            if (!Modifier.isPublic(method.getModifiers())) {
+                hidden(method);
+            }
+        }
+        for (Field field : PicturedRecord.class.getDeclaredFields()) {
+            if (!field.getName().equals("NONE")) {
+                hidden(field);
+            }
+        }
         for (Class<?> type : allClasses()) {
             for (Method method : type.getDeclaredMethods()) {
-                if (type == PicturedRecord.class && Modifier.isPublic(method.getModifiers())) {
-                    continue;
-                }
-                hidden(type, method);
-                CHECKS.same(method.getName() + " bears a public name", publicNames.contains(method.getName()), false);
-            }
-            for (Field field : type.getDeclaredFields()) {
-                if (!field.getName().equals("NONE")) {
-                    hidden(type, field);
-                }
+                boolean clashes = Modifier.isPrivate(method.getModifiers()) && publicNames.contains(method.getName());
+                CHECKS.same(method + " is private and bears a public name", clashes, false);
             }
         }
     }
 
-    private static void hidden(Class<?> type, Member member) {
-        String what = type.getSimpleName() + "." + member.getName() + " is private";
-        CHECKS.same(what, Modifier.isPrivate(member.getModifiers()), true);
+    private static void hidden(Member member) {
+        CHECKS.same(member.getName() + " is private", Modifier.isPrivate(member.getModifiers()), true);
     }
 
     private static void staticFieldsAreConstants() {
@@ -81,11 +91,16 @@ public final class FaceTest {
         for (Class<?> type : allClasses()) {
             for (Field field : type.getDeclaredFields()) {
                 if (Modifier.isStatic(field.getModifiers())) {
+                    boolean constant = allowed.contains(field.getType()) || isOfEnum(field.getType());
                     CHECKS.same(field.getName() + " is final", Modifier.isFinal(field.getModifiers()), true);
-                    CHECKS.same(field.getName() + " is a constant", allowed.contains(field.getType()), true);
+                    CHECKS.same(field.getName() + " is a constant", constant, true);
                 }
             }
         }
+    }
+
+    private static boolean isOfEnum(Class<?> type) {
+        return type.isEnum() || type.isArray() && type.getComponentType().isEnum();
     }
 
     private static void nestedClasses() {
@@ -95,7 +110,6 @@ public final class FaceTest {
             int modifiers = type.getModifiers();
             CHECKS.same(type + " is static", Modifier.isStatic(modifiers), true);
             CHECKS.same(type + " is hidden", Modifier.isPublic(modifiers) || Modifier.isProtected(modifiers), false);
-            CHECKS.same(type + " has no classes inside", type.getDeclaredClasses().length, 0);
         }
     }
 

@@ -9,13 +9,18 @@ public final class ModelTest {
         "9.9B9+", "$0$0$", "Z(9)", "-(10)", "9(5).9(4)", "Z,Z", "**", "$$", "Z0Z0Z0Z9"
     };
 
+    private static final int MOST_CALLS = 512;
+    // A field takes at most a scrap, 24 characters and the making of it.
+    private static final int CALLS_TO_MAKE = 26;
+    private static final int CALLS_TO_COMPARE = 66 + 3 * 14 + 3;
+
     private static long state = 20260115L;
 
     public static void main(String[] args) {
         int longest = args.length > 0 ? Integer.parseInt(args[0]) : 4;
-        int runs = args.length > 1 ? Integer.parseInt(args[1]) : 1500;
+        int runs = args.length > 1 ? Integer.parseInt(args[1]) : 6000;
         everyShortPicture(longest);
-        longerPictures(40 * runs);
+        longerPictures(10 * runs);
         for (int run = 0; run < runs && !CHECKS.failed(); run++) {
             runOfCalls(run);
         }
@@ -79,23 +84,26 @@ public final class ModelTest {
         CHECKS.same("size of " + picture, r.size(0), m.size(0));
     }
 
+    /** Compares answers call by call and the whole state at the end, all within the 512 calls. */
     private static void runOfCalls(int run) {
         PicturedRecord r = new PicturedRecord();
         Model m = new Model();
-        int calls = 120 + below(200);
         int width = below(2) == 0 ? 64 : 24;
-        for (int i = 0; i < calls && !CHECKS.failed(); i++) {
-            String where = "run " + run + " call " + i + " ";
-            if (r.fields() < 12 && below(12) == 0 || i < 4) {
-                makeField(where, r, m, width);
+        int end = 100 + below(MOST_CALLS - CALLS_TO_COMPARE - 99);
+        int calls = 0;
+        for (int i = 0; calls + CALLS_TO_MAKE <= end; i++) {
+            String where = "run " + run + " call " + calls + " ";
+            if (m.fields() < 12 && below(12) == 0 || i < 4) {
+                calls += makeField(where, r, m, width);
             } else {
-                anyCall(where, r, m, width);
+                calls += anyCall(where, r, m, width);
             }
-            compareState(where, r, m);
         }
+        compareState("run " + run + " ", r, m);
     }
 
-    private static void makeField(String where, PicturedRecord r, Model m, int width) {
+    /** How many calls it made. */
+    private static int makeField(String where, PicturedRecord r, Model m, int width) {
         r.scrap();
         m.scrap();
         String picture = PICTURES[below(PICTURES.length)];
@@ -108,10 +116,11 @@ public final class ModelTest {
         int usage = below(3) == 0 ? 0 : below(6) - 1;
         int offset = below(width + 2) - 1;
         CHECKS.same(where + "field of " + picture, r.field(usage, offset), m.field(usage, offset));
+        return picture.length() + 2;
     }
 
-    private static int someField(PicturedRecord r) {
-        return below(25) == 0 ? below(16) - 2 : below(Math.max(1, r.fields()));
+    private static int someField(Model m) {
+        return below(25) == 0 ? below(16) - 2 : below(Math.max(1, m.fields()));
     }
 
     private static int someMode() {
@@ -137,11 +146,12 @@ public final class ModelTest {
         return likely.charAt(below(likely.length()));
     }
 
-    private static void anyCall(String where, PicturedRecord r, Model m, int width) {
-        int a = someField(r);
-        int b = someField(r);
-        int c = someField(r);
-        int d = someField(r);
+    /** How many calls it made. */
+    private static int anyCall(String where, PicturedRecord r, Model m, int width) {
+        int a = someField(m);
+        int b = someField(m);
+        int c = someField(m);
+        int d = someField(m);
         int mode = someMode();
         String args = a + " " + b + " " + c + " " + d + " mode " + mode;
         switch (below(9)) {
@@ -175,6 +185,9 @@ public final class ModelTest {
                 CHECKS.same(where + "poke " + p + " " + value, r.poke(p, value), m.poke(p, value));
                 break;
         }
+        same(where, "value", a, r.value(a), m.value(a));
+        same(where, "value", c, r.value(c), m.value(c));
+        return 3;
     }
 
     private static void compareState(String where, PicturedRecord r, Model m) {

@@ -71,4 +71,14 @@ final class Records {
     static String allBytes(PicturedRecord r) {
         return hex(r, 0, 64);
     }
+
+    /** All that can be asked without changing anything; at most 103 calls. */
+    static String state(PicturedRecord r) {
+        StringBuilder found = new StringBuilder(allBytes(r));
+        int count = r.fields();
+        for (int f = 0; f < count; f++) {
+            found.append(" field ").append(r.size(f)).append(' ').append(r.shape(f)).append(' ').append(r.value(f));
+        }
+        return found.append(" errors ").append(r.sizeErrors()).append(' ').append(r.dataErrors()).toString();
+    }
 }
