@@ -46,6 +46,8 @@ public final class CallSentencesTest {
         CHECKS.same("the greatest number with scale 9", r.value(0), 21474);
         r.put(0, Integer.MIN_VALUE, 9);
         CHECKS.same("the least number with scale 9", r.value(0), -21474);
+        r.put(0, 429497, 0);
+        CHECKS.same("a number of units beyond 2 to the 32", r.value(0), 294970000);
         r.put(0, 99999, 9);
         CHECKS.same("a number too small", r.value(0), 0);
         r.put(0, 100000, 9);

@@ -198,6 +198,28 @@ public final class StoringSentencesTest {
         CHECKS.same("the largest product", r.compute(2, 0, 1, 2, 0), 1);
         CHECKS.same("the largest sum", r.compute(0, 0, 1, 2, 0), 1);
         CHECKS.same("the target", r.value(2), 1);
+        tooLargeForTheMachine();
+    }
+
+    /** Numbers that would fit if whoever computes them lost what is beyond 32 or 64 bits. */
+    private static void tooLargeForTheMachine() {
+        sizeError("9(9)", 429497, "V9(4)", 0);
+        sizeError("S9(9)", -429497, "SV9(4)", 0);
+        PicturedRecord square = Records.zoned("9(5)", 65536, "9(9)", 1);
+        CHECKS.same("2 to the 32", square.compute(2, 0, 0, 1, 0), 1);
+        for (int sign = -1; sign <= 1; sign += 2) {
+            PicturedRecord r = Records.zoned("9(9)", 967901257, "S9(9)", sign * 798551062, "S9(5)V9(4)", 1);
+            CHECKS.same("a product with units near 419 times 2 to the 64", r.compute(2, 0, 1, 2, 0), 1);
+            CHECKS.same("its target", r.value(2), 1);
+        }
+        PicturedRecord sum = new PicturedRecord();
+        int[] units = {999999999, 999999999, 999999999, 999999999, 294967301, 1};
+        for (int k = 0; k < units.length; k++) {
+            Records.make(sum, "9(9)", Records.BINARY, 4 * k);
+            sum.put(k, units[k], 0);
+        }
+        CHECKS.same("2 to the 32 and 1 more", sum.total(0, 4, 5, 0), 1);
+        CHECKS.same("its target", sum.value(5), 1);
     }
 
     private static void fieldStays() {
@@ -279,6 +301,8 @@ public final class StoringSentencesTest {
         moves("9(9)", 987654321, "9(5)V9(4)", 543210000);
         moves("9(3)V99", 12345, "9V9", 34);
         moves("9(3)", 456, "V9(4)", 0);
+        moves("9(9)", 429497, "V9(4)", 0);
+        moves("S9(9)", -429497, "S9V9(4)", -70000);
     }
 
     private static void movedSigns() {
