@@ -5,6 +5,7 @@ public final class ErrorCountsTest {
     public static void main(String[] args) {
         sizeErrorsOfEachCall();
         dataErrorsOfEachCall();
+        unitsThatLookLikeAnError();
         CHECKS.finish();
     }
 
@@ -70,5 +71,16 @@ public final class ErrorCountsTest {
         counted(r, "refusals", 0, 5);
         r.dataErrors();
         counted(r, "asking", 0, 5);
+    }
+
+    /** -2 is an error where a promise says so; as units it is a number like any other. */
+    private static void unitsThatLookLikeAnError() {
+        PicturedRecord r = Records.zoned("S9", -2, "S9", 0);
+        CHECKS.same("units", r.value(0), -2);
+        counted(r, "value of -2", 0, 0);
+        CHECKS.same("move", r.move(0, 1), 0);
+        CHECKS.same("sum", r.total(0, 0, 1, 7), 0);
+        CHECKS.same("moved units", r.value(1), -2);
+        counted(r, "-2 moved and added", 0, 0);
     }
 }
